@@ -77,19 +77,15 @@ public final class Wikiwright {
         checkUser(user);
         checkPage(page);
         Page changed = pages[page];
-        boolean isFirst = base == NONE && changed.count() == 0;
-        if (!isFirst) {
+        if (base != NONE || changed.count() > 0) {
             checkRevision(page, base);
         }
         if (grammar.faultOf(tape) != NONE) {
             throw new IllegalArgumentException("the tape has a fault");
         }
         checkMayGrow(user, page);
-        if (isFirst || base == changed.count() - 1) {
-            merger.take(tape);
-        } else {
-            checkMerges(changed.textOf(base), tape, changed.current());
-        }
+        // If the base is the last one, or there are none, the tape itself comes of merging.
+        checkMerges(changed.textOf(base), tape, changed.current());
         tape.clear();
         addRevision(page, user);
         showNewText(page);
@@ -612,7 +608,7 @@ public final class Wikiwright {
         }
 
         /** Where the value begins that a case shows, its own or that of a later one; or the end. */
-        int valueOf(int firstCase, int end) {
+        int valueFrom(int firstCase, int end) {
             int from = firstCase;
             for (int tried = 0; tried < MOST_SIGNS && from < end; tried++) {
                 int behind = ownPlace('|', from, end);
@@ -766,10 +762,6 @@ public final class Wikiwright {
 
         Text result() {
             return result;
-        }
-
-        void take(Text text) {
-            result.copy(text);
         }
 
         void takeRedirect(int page) {
@@ -1023,8 +1015,8 @@ public final class Wikiwright {
     /** The signs put in an expansion that are still looked at, the newest last. */
     private static final class Sheet {
 
-        static final int NO_AMOUNT = Integer.MIN_VALUE;
         private static final int FURTHEST = 9999;
+        private static final int NO_AMOUNT = FURTHEST + 1;
         private static final int MOST_DIGITS = 3;
 
         private final char[] signs = new char[MOST_PUT];
@@ -1417,7 +1409,7 @@ public final class Wikiwright {
             int taken = takenCase(frame, begin, bar + 1, end, depth);
             sheet.cut(begin);
             if (taken != NONE) {
-                int value = text.valueOf(taken, end);
+                int value = text.valueFrom(taken, end);
                 showPieces(frame, value, text.ownPlace('|', value, end), depth + 1);
                 return;
             }
