@@ -194,6 +194,7 @@ final class Oracle {
 
         private String emit(String signs) {
             int room = Math.min(signs.length(), 1000 - put);
+            unput += room < signs.length() ? 1 : 0;
             put += room;
             return signs.substring(0, room);
         }
@@ -264,6 +265,8 @@ final class Oracle {
                 return emit(piece.plain);
             }
             if (open.contains(found) || open.size() == 6 || calls == 60) {
+                tooDeep += open.contains(found) || calls == 60 ? 0 : 1;
+                tooMany += open.contains(found) || open.size() == 6 ? 0 : 1;
                 return emit("!");
             }
             calls++;
@@ -337,6 +340,7 @@ final class Oracle {
         }
         String signs = expander.all(new Parser(text).parse(), List.of(), List.of(page));
         expander.view.signs = signs.substring(0, Math.min(200, signs.length()));
+        cut += signs.length() > 200 ? 1 : 0;
         return expander.view;
     }
 
@@ -363,6 +367,12 @@ final class Oracle {
     private final boolean[][] watching = new boolean[4][12];
     private final int[] unseen = new int[4];
     private int tick;
+
+    /** How often a limit alone was in the way: 5 calls open, 60 calls, 1000 signs, 200 signs. */
+    int tooDeep;
+    int tooMany;
+    int unput;
+    int cut;
 
     Oracle() {
         for (int page = 0; page < 12; page++) {

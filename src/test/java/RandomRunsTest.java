@@ -4,26 +4,38 @@ import java.util.Random;
 public final class RandomRunsTest {
 
     private static final int RUNS = 4000;
+    private static final int LARGE_RUNS = 1000;
     private static final int TEXTS = 40000;
 
     /** Draws texts that lean towards those that hold calls of the first few pages. */
     private static final class Drawer {
         private final Random random;
         private final int pages;
+        private final boolean isLarge;
+        private char next = 'a';
 
-        Drawer(Random random, int pages) {
+        Drawer(Random random, int pages, boolean isLarge) {
             this.random = random;
             this.pages = pages;
+            this.isLarge = isLarge;
         }
 
+        /** Large texts lean towards one page each, so that there are long rows of calls. */
         private char page() {
+            if (isLarge && random.nextInt(3) > 0) {
+                return next;
+            }
             return (char) ('a' + random.nextInt(pages));
         }
 
-        String text() {
+        String text(int page) {
+            next = (char) ('a' + (page + 1 + 2 * pages) % pages);
             int kind = random.nextInt(12);
             if (kind == 0) {
                 return ">" + page();
+            }
+            if (isLarge && kind > 3) {
+                return large();
             }
             String text = pieces(1 + random.nextInt(5), 0);
             for (int tries = 0; tries < 20 && text.length() > 60; tries++) {
@@ -31,6 +43,21 @@ public final class RandomRunsTest {
             }
             text = text.length() > 60 ? text.substring(0, 60) : text;
             return kind == 1 ? spoilt(text) : text;
+        }
+
+        /** A text that shows much, so that the limits of an expansion are met. */
+        private String large() {
+            String repeated = random.nextInt(3) == 0 ? "xyz" : "{" + page() + "}";
+            if (random.nextInt(4) == 0) {
+                repeated = piece(random.nextInt(8));
+            }
+            StringBuilder text = new StringBuilder();
+            while (text.length() + repeated.length() <= 20 + random.nextInt(30)) {
+                text.append(repeated);
+            }
+            String last = piece(2);
+            String all = random.nextInt(4) == 0 ? "{?" + text + "|" + last + "}" : text + last;
+            return all.length() > 60 ? text.toString() : all;
         }
 
         private String spoilt(String text) {
@@ -94,15 +121,17 @@ public final class RandomRunsTest {
     private final Wikiwright wiki = new Wikiwright();
     private final Oracle oracle = new Oracle();
     private final int pages;
+    private final boolean isLarge;
     private final Checks checks;
     private final String run;
 
-    private RandomRunsTest(int seed, Checks checks) {
+    private RandomRunsTest(int seed, boolean isLarge, Checks checks) {
         this.checks = checks;
         run = "run " + seed + ": ";
         random = new Random(seed);
-        pages = 2 + random.nextInt(11);
-        drawer = new Drawer(random, pages);
+        pages = isLarge ? 7 + random.nextInt(3) : 2 + random.nextInt(11);
+        this.isLarge = isLarge;
+        drawer = new Drawer(random, pages, isLarge);
     }
 
     private static String told(Checks.Call call) {
@@ -148,7 +177,8 @@ public final class RandomRunsTest {
     private boolean saves() {
         int page = page();
         int count = page >= 0 && page < 12 ? oracle.revisions(page) : 0;
-        String text = count > 0 && random.nextInt(3) == 0 ? changed(page, count) : drawer.text();
+        String text = count > 0 && random.nextInt(3) == 0 ? changed(page, count)
+                : drawer.text(page);
         boolean same = writes(text);
         int user = user();
         int base = random.nextInt(4) > 0 ? count - 1 : revision(page);
@@ -179,7 +209,7 @@ public final class RandomRunsTest {
         int revision = revision(page);
         int small = random.nextInt(5) - 1;
         boolean flag = random.nextBoolean();
-        switch (random.nextInt(16)) {
+        switch (isLarge && random.nextBoolean() ? 15 : random.nextInt(16)) {
             case 0: return same("undo", () -> wiki.undo(user, page, revision),
                     () -> oracle.undo(user, page, revision));
             case 1: return same("move " + page + " " + to, () -> wiki.move(user, page, to),
@@ -260,10 +290,10 @@ public final class RandomRunsTest {
 
     private static boolean faultsAreAlike(Checks checks) {
         Random random = new Random(7);
-        Drawer drawer = new Drawer(random, 12);
+        Drawer drawer = new Drawer(random, 12, false);
         Desk desk = new Desk();
         for (int text = 0; text < TEXTS; text++) {
-            String drawn = drawer.spoilt(drawer.text());
+            String drawn = drawer.spoilt(drawer.text(text % 12));
             int got = desk.fault(drawn);
             checks.due("the fault of " + drawn, got, Oracle.faultOf(drawn));
             if (got != Oracle.faultOf(drawn)) {
@@ -273,11 +303,37 @@ public final class RandomRunsTest {
         return true;
     }
 
+    /** Runs of texts that show much; that they meet the limits is looked at, too. */
+    private static void largeRuns(Checks checks) {
+        boolean isAlike = true;
+        int tooDeep = 0;
+        int tooMany = 0;
+        int unput = 0;
+        int cut = 0;
+        for (int seed = RUNS; seed < RUNS + LARGE_RUNS && isAlike; seed++) {
+            RandomRunsTest run = new RandomRunsTest(seed, true, checks);
+            isAlike = run.goesOn();
+            tooDeep += run.oracle.tooDeep;
+            tooMany += run.oracle.tooMany;
+            unput += run.oracle.unput;
+            cut += run.oracle.cut;
+        }
+        checks.due("5 open calls are met", tooDeep > 500, true);
+        checks.due("60 calls are met", tooMany > 1000, true);
+        checks.due("1000 signs are met", unput > 1000, true);
+        checks.due("200 signs are met", cut > 1000, true);
+        System.out.println("RandomRunsTest: limits met " + tooDeep + ", " + tooMany + ", " + unput
+                + ", " + cut + " times");
+    }
+
     public static void main(String[] args) {
         Checks checks = new Checks("RandomRunsTest");
         boolean isAlike = faultsAreAlike(checks);
         for (int seed = 0; seed < RUNS && isAlike; seed++) {
-            isAlike = new RandomRunsTest(seed, checks).goesOn();
+            isAlike = new RandomRunsTest(seed, false, checks).goesOn();
+        }
+        if (isAlike) {
+            largeRuns(checks);
         }
         checks.finish();
     }

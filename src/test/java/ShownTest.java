@@ -53,6 +53,8 @@ public final class ShownTest {
         shows("{b}", "b", "b>c", "c>d", "dx");
         shows("{b}", "b", "b>b");
         shows("{b}x", "!x", "b>a");
+        shows("{b}{c}{d}", "xc1>.a", "bxc", "c1'>'", "d.a");
+        shows("xc", "xc");
         Desk desk = wikiOf("b>c", "c>d", "dx");
         desk.put('a', "{b}");
         CHECKS.due("stands on a redirect and where it leads", desk.stands('a'), Desk.bits("bc"));
@@ -105,6 +107,8 @@ public final class ShownTest {
         shows("{=a|a|y|n}{= a| a  |y|n}{=a b|ab|y|n}", "yyn");
         shows("{=|  |y}{=a|b|y}{=a|b|y|}{={+1+1}|2|y}", "yy");
         shows("{= a|a|y}", "y");
+        shows("{=abcd| abcd |y|n}{=abcd|abce|y|n}", "yn");
+        shows("{=abcd|bbcd|y|n}{=abcd|abc|y|n}", "nn");
         Desk desk = wikiOf("bx");
         desk.put('a', "{?x|[c]|[d]}{=x|y|[e]|[f]}{0|[g]}");
         CHECKS.due("only what is shown links", desk.links('a'), Desk.bits("cfg"));
@@ -234,6 +238,11 @@ public final class ShownTest {
         CHECKS.due("labels", desk.labels('e'), 1 | 1 << 25);
         desk.wiki.work(1);
         CHECKS.due("labels of calls", desk.labels('e'), 3 | 1 << 25);
+        desk.put('a', "[k]");
+        CHECKS.due("linked from the first page", desk.wiki.linked(10), Desk.bits("a"));
+        CHECKS.due("no labels of others", desk.labels('a'), 0);
+        CHECKS.due("no links of others", desk.links('a'), Desk.bits("k"));
+        CHECKS.due("stands on nothing of others", desk.stands('a'), 0);
     }
 
     private static void searching() {
