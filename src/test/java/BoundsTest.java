@@ -37,6 +37,18 @@ public final class BoundsTest {
         CHECKS.due("beyond 60", desk.wiki.text(0, 0, 0, 61), Wikiwright.NONE);
     }
 
+    private static void sixtySignsSearched() {
+        Desk desk = wikiOf("b" + x(60), "c" + x(59), "d{b}y", "ly" + x(59));
+        desk.tape(x(60));
+        CHECKS.due("60 signs are found", desk.wiki.search(), Desk.bits("bd"));
+        desk.tape(x(59));
+        CHECKS.due("59 signs are found", desk.wiki.search(), Desk.bits("bcdl"));
+        desk.tape(x(59) + "y");
+        CHECKS.due("found at the end", desk.wiki.search(), Desk.bits("d"));
+        desk.tape("y" + x(59));
+        CHECKS.due("found at the start", desk.wiki.search(), Desk.bits("l"));
+    }
+
     private static void sixtySignsOfAMerge() {
         for (int length = 59; length <= 61; length++) {
             Desk desk = wikiOf("aa;b", "a" + x(30) + ";b");
@@ -238,7 +250,8 @@ public final class BoundsTest {
 
     /** A wiki in which each c is 240 signs put, and b and d are 60. */
     private static Desk wikiOfSigns() {
-        return wikiOf("b" + x(60), "c{b}{b}{b}{b}", "d" + "z".repeat(60), "e", "f{0}{0}", "g{1}{g}");
+        return wikiOf("b" + x(60), "c{b}{b}{b}{b}", "d" + "z".repeat(60), "e", "f{0}{0}",
+                "g{1}{g}");
     }
 
     /** How many signs a text puts, by what is left of 40. */
@@ -532,6 +545,7 @@ public final class BoundsTest {
 
     public static void main(String[] args) {
         sixtySignsOfATape();
+        sixtySignsSearched();
         sixtySignsOfAMerge();
         sixtySignsOfAnUndo();
         eightOpen();
