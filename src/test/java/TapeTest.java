@@ -75,6 +75,20 @@ public final class TapeTest {
         fault(" >a", 1);
     }
 
+    /** What stood on the tape before is no longer there. */
+    private static void faultsOfAWipedTape() {
+        Desk desk = new Desk();
+        CHECKS.due("a redirect", desk.fault(">a"), Wikiwright.NONE);
+        CHECKS.due("half of one", desk.fault(">"), 1);
+        CHECKS.due("a label", desk.fault("[#a]"), Wikiwright.NONE);
+        CHECKS.due("half of it", desk.fault("[#"), 2);
+        CHECKS.due("a redirect saved", desk.put('b', ">a"), 0);
+        desk.wiki.type('>');
+        CHECKS.due("half of one behind a save", desk.wiki.fault(), 1);
+        desk.wiki.wipe();
+        CHECKS.due("nothing of it", desk.wiki.fault(), Wikiwright.NONE);
+    }
+
     private static void bracketFaults() {
         fault("[a]", Wikiwright.NONE);
         fault("[l|x{b}]", Wikiwright.NONE);
@@ -151,6 +165,7 @@ public final class TapeTest {
         typing();
         plainFaults();
         redirectFaults();
+        faultsOfAWipedTape();
         bracketFaults();
         callFaults();
         depthFaults();
